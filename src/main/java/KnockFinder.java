@@ -116,7 +116,7 @@ public final class KnockFinder {
     }
 
     public long angle(int tick) {
-        return tick < 0 || tick > LAST_TICK ? NONE : now.angleOf(tick);
+        return tick < 0 || tick > LAST_TICK ? NONE : now.spans.angleOf(tick, now.turn);
     }
 
     public int knock(int k, int what) {
@@ -419,9 +419,9 @@ public final class KnockFinder {
     private void foldHits(Ratio by) {
         Arrays.fill(eighths, 0);
         long period = Math.max(1, FULL_TURN * by.below);
-        long first = now.angleOf(comber.tickOfHit(seen, 0));
+        long first = now.spans.angleOf(comber.tickOfHit(seen, 0), now.turn);
         for (int i = 0; i < comber.hits; i++) {
-            long behind = now.angleOf(comber.tickOfHit(seen, i)) - first;
+            long behind = now.spans.angleOf(comber.tickOfHit(seen, i), now.turn) - first;
             int eighth = (int) (behind * by.above % period * EIGHTHS / period);
             if (eighth >= 0 && eighth < EIGHTHS) {
                 eighths[eighth] += seen.strengths[comber.hitKnocks[i]];
@@ -528,7 +528,7 @@ public final class KnockFinder {
         if (what != 0 && what != 1) {
             return NONE;
         }
-        findFaults();
+        peel(verdict, now);
         return what == 0 ? verdict.count : verdict.left;
     }
 
@@ -536,7 +536,7 @@ public final class KnockFinder {
         if (i < 0 || what < 0 || what > 5) {
             return NONE;
         }
-        findFaults();
+        peel(verdict, now);
         return i < verdict.count ? verdict.tell(i, what) : NOT_THERE;
     }
 
@@ -544,7 +544,7 @@ public final class KnockFinder {
         if (i < 0 || k < -1) {
             return NONE;
         }
-        findFaults();
+        peel(verdict, now);
         if (i >= verdict.count) {
             return NOT_THERE;
         }
@@ -564,11 +564,12 @@ public final class KnockFinder {
         draft.copy(now);
         draft.measure(balls, ball, ring);
         draft.turn = turn == 0 ? now.turn : turn;
-        aside.copy(seen);
         if (what == 2) {
+            verdictAside.forget();
             peel(verdictAside, draft);
             return verdictAside.count;
         }
+        aside.copy(seen);
         int kind = firstAside(draft, 0);
         return what == 0 ? kind : verdictAside.hits[kind];
     }
@@ -614,17 +615,14 @@ public final class KnockFinder {
         return NONE;
     }
 
-    private void findFaults() {
-        if (!verdict.peeled) {
-            aside.copy(seen);
-            peel(verdict, now);
-            verdict.peeled = true;
-        }
-    }
-
-    /** Finds faults by what is aside, and takes their hits out of it. */
+    /** Finds faults, unless they are known, and takes their hits out of a copy of what is seen. */
     private void peel(Verdict into, State state) {
+        if (into.peeled) {
+            return;
+        }
+        aside.copy(seen);
         into.count = 0;
+        into.peeled = true;
         int gone = 0;
         for (int round = 0; round < KINDS; round++) {
             int kind = firstAside(state, gone);
@@ -1028,17 +1026,13 @@ public final class KnockFinder {
         long angleOf(int tick, int firstTurn) {
             long sum = 0;
             int from = 0;
-            int turn = firstTurn;
+            int turn = Math.max(1, firstTurn);
             for (int i = 0; i < count && ticks[i] < tick; i++) {
-                sum += angleIn(ticks[i] - from, turn);
+                sum += (ticks[i] - from) * FULL_TURN / turn;
                 from = ticks[i];
-                turn = turns[i];
+                turn = Math.max(1, turns[i]);
             }
-            return sum + angleIn(tick - from, turn);
-        }
-
-        private static long angleIn(int ticks, int turn) {
-            return ticks * FULL_TURN / Math.max(1, turn);
+            return sum + (tick - from) * FULL_TURN / turn;
         }
     }
 
@@ -1322,10 +1316,6 @@ public final class KnockFinder {
             ring = newRing;
         }
 
-        long angleOf(int tick) {
-            return spans.angleOf(tick, turn);
-        }
-
         /** How often a kind knocks in a turn. */
         void rate(int kind, Ratio into) {
             switch (kind) {
@@ -1376,7 +1366,7 @@ public final class KnockFinder {
             drift = state.options[DRIFT];
             period = Math.max(1, FULL_TURN * ratio.below);
             for (int k = 0; k < count; k++) {
-                long place = state.angleOf(knocks.ticks[k]) * ratio.above;
+                long place = state.spans.angleOf(knocks.ticks[k], state.turn) * ratio.above;
                 wholes[k] = place / period;
                 rests[k] = place % period;
             }
@@ -1511,7 +1501,7 @@ public final class KnockFinder {
         void follow(Knocks knocks, State state, Ratio ratio) {
             count = knocks.count;
             for (int k = 0; k < count; k++) {
-                places[k] = state.angleOf(knocks.ticks[k]) * ratio.above;
+                places[k] = state.spans.angleOf(knocks.ticks[k], state.turn) * ratio.above;
             }
             for (int k = count - 1; k >= 0; k--) {
                 link(k, FULL_TURN * ratio.below, state.options[SLIP], state.options[MISS]);
