@@ -61,6 +61,7 @@ public final class PromisesTest {
         tried();
         bestTurn();
         check();
+        manyKnocks();
         C.end();
     }
 
@@ -397,6 +398,14 @@ public final class PromisesTest {
         x.undo();
         due("11 undone", x.get(15), 19);
         due("11 the last day", x.note(9999), 20);
+        KnockFinder y = with("(80e)9");
+        y.note(5);
+        y.undo();
+        Checks.filters(y, "a99");
+        y.note(6);
+        for (int what = 1; what <= 10; what++) {
+            due("12 nothing is left of what was undone", y.noteIs(0, what), 0);
+        }
     }
 
     /** A finder whose shaft turns once in so many ticks, all angles being whole; a cage's period is twenty turns. */
@@ -495,6 +504,12 @@ public final class PromisesTest {
         // 5 in 9999 days: 90 at 9 * 9999, 95 at 99990 + 9999.
         due("14 up to 99999", w.due(4, 90), 99990);
         due("14 behind 99999", w.due(4, 91), -2);
+        KnockFinder v = turning(80, "80e");
+        v.note(9);
+        Checks.trace(v, "80e");
+        v.note(19);
+        due("14 at 99999", v.due(4, 99990), 99999);
+        due("14 behind 99999", v.due(4, 99991), -2);
     }
 
     private static void undo() {
@@ -1029,6 +1044,12 @@ public final class PromisesTest {
         x.set(0, 10);
         // Shaft marks at m: off by m times 20/1998 of the outer's period; slips 0.01 and 0.001001 turns: m above 10.98..
         due("33 later marks", x.apart(0, 4), 11);
+        x.bearing(3, 10, 101);
+        x.set(0, 36);
+        due("33 mark 400", x.apart(2, 4), 400);
+        x.bearing(3, 26, 135);
+        x.set(0, 19);
+        due("33 mark 401 is too far", x.apart(2, 4), -2);
     }
 
     private static void lag() {
@@ -1069,6 +1090,11 @@ public final class PromisesTest {
         due("35 far lags", y.lags(9500, 9999, 0, 0), 9990);
         due("35 how many", y.lags(9500, 9999, 0, 1), 35);
         due("35 with all of t", y.lags(9500, 9999, 99, 0), 9891);
+        KnockFinder z = with("1a(999b)9999b108c");
+        Checks.filters(z, "k11");
+        due("35 one pair, at the very end", z.lags(9500, 9999, 99, 0), 9999);
+        due("35 one pair, at the very end", z.lags(9500, 9999, 99, 1), 1);
+        due("35 not farther", z.lags(9500, 9999, 98, 1), 0);
     }
 
     private static void nearest() {
@@ -1177,6 +1203,27 @@ public final class PromisesTest {
         due("39 none", y.check(5), -1);
         put(y, new int[] {255, 0, 255, 255, 255});
         due("39 none is not 0", y.check(5), 1);
+    }
+
+    /** All rows are full: 200 knocks, a turn apart. */
+    private static void manyKnocks() {
+        KnockFinder x = turning(20, "(((20a)8)5)5");
+        due("19 hits", x.comb(4, 0, 0), 200);
+        due("20 last", x.hit(4, 0, 199), 199);
+        due("21 knock", x.best(4, 6), 0);
+        due("23 all", x.shared(4, 4), 200);
+        due("24 all", x.both(4, 3, 0), 200);
+        due("24 all", x.both(3, 4, 0), 200);
+        due("25 all", x.window(0, 1, 4, 0), 200);
+        due("25 an eighth", x.window(7, 8, 4, 2), 25);
+        due("27 all", x.chain(4, 0, 0), 200);
+        due("28 last", x.longest(4, 1), 199);
+        due("29 all", x.folded(4, 4, 0), 200);
+        due("31 left", x.faults(1), 0);
+        due("34 next ones", x.lag(20, 0), 199);
+        due("10 drop", x.drop(199), 199);
+        due("10 drop", x.drop(0), 198);
+        due("19 hits", x.comb(4, 0, 0), 198);
     }
 
     private static void put(KnockFinder x, int[] bytes) {
