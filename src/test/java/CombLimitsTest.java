@@ -21,6 +21,7 @@ public final class CombLimitsTest {
         chainOfNext();
         chainOfMisses();
         chainOfSlips();
+        chainOfKinds();
         longestOfLikeOnes();
         sidesAboveNone();
         eighths();
@@ -101,6 +102,11 @@ public final class CombLimitsTest {
             due("just within, behind", at(1000, slip, 500, 1500 + slip).hit(SHAFT, 0, 1), 1);
             due("just without, behind", at(1000, slip, 500, 1501 + slip).hit(SHAFT, 0, 1), -2);
         }
+        // The longest turn: a tick is a fifth of a thousandth.
+        due("490", at(5000, 490, 500, 5500 + 2450).hit(SHAFT, 0, 1), 1);
+        due("490.2", at(5000, 490, 500, 5500 + 2451).hit(SHAFT, 0, 1), -2);
+        due("490 ahead", at(5000, 490, 500, 5500 - 2450, 5500 + 2500).hit(SHAFT, 0, 1), 1);
+        due("490.2 ahead", at(5000, 490, 500, 5500 - 2451, 5500 + 2500).hit(SHAFT, 0, 1), -2);
     }
 
     /** "SLIP and m DRIFT thousandths": DRIFT 0 to 50 */
@@ -154,6 +160,8 @@ public final class CombLimitsTest {
         due("3 quarters", at(4000, 100, 4, 4007).comb(SHAFT, 0, 5), 0);
         due("4 quarters", at(4000, 100, 4, 4008).comb(SHAFT, 0, 5), 1);
         due("7 quarters", at(4000, 100, 4, 4011).comb(SHAFT, 0, 5), 1);
+        due("489.8", at(5000, 490, 500, 5500 + 2449).comb(SHAFT, 0, 5), 489);
+        due("490", at(5000, 490, 500, 5500 + 2450).comb(SHAFT, 0, 5), 490);
         due("the last hit, not the last knock", at(1000, 100, 500, 1500, 1700).comb(SHAFT, 0, 4), 1500);
         due("the first is the last", at(1000, 100, 500, 1700).comb(SHAFT, 0, 4), 500);
     }
@@ -269,6 +277,29 @@ public final class CombLimitsTest {
                 due("slip " + one[0] + ", a knock at " + ticks[i], x.chain(SHAFT, 0, 0), within ? 2 : 1);
             }
         }
+        due("490", at(5000, 490, 500, 5500 + 2450).chain(SHAFT, 0, 0), 2);
+        KnockFinder y = at(5000, 490, 500, 5500 + 2451);
+        y.set(2, 0);
+        due("490.2", y.chain(SHAFT, 0, 0), 1);
+        y.set(2, 1);
+        due("490.2, and 509.8 of the next", y.chain(SHAFT, 0, 0), 1);
+    }
+
+    /** Each kind by its own period: 80, 48, 64, 640, 240 ticks. */
+    private static void chainOfKinds() {
+        int[] periods = {80, 48, 64, 640, 240};
+        for (int kind = 0; kind < 5; kind++) {
+            int p = periods[kind];
+            KnockFinder x = at(240, 5, p, 2 * p, 3 * p, 5 * p);
+            due("chain of kind " + kind, x.chain(kind, 0, 0), 4);
+            due("its periods", x.chain(kind, 0, 2), 4);
+            due("longest of kind " + kind, x.longest(kind, 0), 4);
+            x.set(2, 0);
+            due("without a miss", x.chain(kind, 0, 2), 2);
+            due("the last one is alone now", x.chain(kind, 2, 0), 1);
+            due("so it has no period", x.chain(kind, 2, 2), 0);
+            due("so it is its own last", x.chain(kind, 2, 1), 2);
+        }
     }
 
     /** "of all KNOCKS the one with the most in its CHAIN, of like ones the earliest" */
@@ -299,6 +330,10 @@ public final class CombLimitsTest {
         due("shaft itself", x.side(SHAFT, 0), 5);
         due("shaft 4", x.side(SHAFT, 3), 5);
         due("cage 27 by 8: a period of 296.3", x.side(3, 3), 1);
+        // Ball 15 by 4 and -2 are 7 by 4: by a turn of 700 a period of 400; and 1: 19 by 4, by a turn of 950 one of 200.
+        due("ball 7 by 4", at(700, 5, 400, 800, 1200, 1600).side(2, -2), 4);
+        due("ball 19 by 4", at(950, 5, 200, 400, 600, 800).side(2, 1), 4);
+        due("ball itself has less", at(700, 5, 400, 800, 1200, 1600).side(2, 0), 1);
         due("by 4", x.side(0, 4), -1);
         due("by -4", x.side(0, -4), -1);
         due("too short for two marks", at(1000, 0, 500, 1499).side(SHAFT, 0), -2);
@@ -343,7 +378,20 @@ public final class CombLimitsTest {
         x.drop(7);
         due("1 by 7", x.folded(SHAFT, 3, 8), 142);
         due("all in one", x.folded(SHAFT, SHAFT, 8), 1000);
+        due("the greatest is not the first", strongLater().folded(SHAFT, 3, 8), 533);
+        due("the first", strongLater().folded(SHAFT, 3, 0), 1);
+        due("one hit, of strength 1", at(1000, 0, 500, 1501).folded(SHAFT, SHAFT, 8), 1000);
+        due("one hit, of strength 1", at(1000, 0, 500, 1501).folded(SHAFT, SHAFT, 0), 1);
         due("no comb", at(100, 0, 5, 6).folded(SHAFT, SHAFT, 8), -2);
+    }
+
+    /** The shaft's knocks by the cage's eighths: 1, 2, 2, 2, 8 and none. */
+    private static KnockFinder strongLater() {
+        KnockFinder x = new KnockFinder();
+        x.turn(100);
+        x.bearing(3, 30, 40);
+        Checks.trace(x, "100a(100b)3100h");
+        return x;
     }
 
     /** "most HITS first, of like ones the higher SCORE, then the lower KIND (those without a COMB last, by KINDS)" */
@@ -502,6 +550,12 @@ public final class CombLimitsTest {
         due("both from the earliest", y.both(0, SHAFT, 1), 0);
         due("both from the earliest", y.both(0, SHAFT, 2), 0);
         due("what 3", y.both(0, SHAFT, 3), -1);
+        // From 100 on one alone, from 200 and from 300 two each.
+        KnockFinder w = at(1000, 0, 100, 200, 300, 1200, 1300);
+        w.bearing(4, 10, 20);
+        due("all but the first", w.both(0, SHAFT, 0), 4);
+        due("the first from the second", w.both(0, SHAFT, 1), 1);
+        due("the second from the third", w.both(0, SHAFT, 2), 2);
         KnockFinder z = at(1000, 0, 500, 1500, 2499);
         z.bearing(4, 10, 20);
         due("the last one is none's", z.both(0, SHAFT, 0), 2);

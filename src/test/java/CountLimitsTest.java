@@ -561,6 +561,8 @@ public final class CountLimitsTest {
         due("the most", x.lags(1, 500, 4, 1), 2);
         due("the last one is looked at", x.lags(1, 7, 0, 1), 1);
         due("the last one is looked at", x.lags(1, 6, 0, 1), 0);
+        due("the second one is looked at", x.lags(6, 10, 0, 0), 7);
+        due("the first one is looked at", x.lags(7, 10, 0, 0), 7);
         due("one alone", x.lags(57, 57, 0, 0), 57);
         due("500 of them", x.lags(9500, 9999, 0, 0), 9500);
         due("501 of them", x.lags(9499, 9999, 0, 0), -1);
@@ -600,6 +602,13 @@ public final class CountLimitsTest {
         due("0.33..", x.nearest(33, 2), 33);
         due("1 by 3 off at multiple 2", x.nearest(67, 2), 33);
         due("which", x.nearest(67, 1), 2);
+        due("1.33.. from outer, 5.33.. from ball", x.nearest(32, 0), 0);
+        due("1.33..", x.nearest(32, 2), 133);
+        due("4.33.. from outer, 2.33.. from ball", x.nearest(29, 0), 2);
+        due("2.33..", x.nearest(29, 2), 233);
+        // Just between 26.66.. and 33.33..: of like ones outer.
+        due("like far", x.nearest(30, 0), 0);
+        due("3.33..", x.nearest(30, 2), 333);
     }
 
     /** "what 0 the KIND that is RANKED first, 1 its HITS (0: it has none), 2 FAULTS FOUND" */
@@ -634,6 +643,21 @@ public final class CountLimitsTest {
         due("the turn stays", x.get(8), 240);
         due("no act", x.get(13), 1);
         due("the faults stay", x.faults(0), 1);
+        x.set(0, 20);
+        // Outer 3 by 20, inner 57 by 20 (84.2), ball 19 by 90, cage 1 by 20: 3 of 3 of the shaft are the most.
+        due("another bearing", x.tried(3, 9, 10, 0, 0), SHAFT);
+        due("its hits", x.tried(3, 9, 10, 0, 1), 3);
+        x.set(3, 10);
+        due("by the options there are", x.tried(8, 10, 40, 0, 2), 0);
+        x.set(3, 9);
+        due("by the options there are", x.tried(8, 10, 40, 0, 2), 1);
+        Checks.speeds(x, "0:160");
+        // Half a turn from knock to knock: the shaft has 5 of 5.
+        due("by the speeds there are", x.tried(8, 10, 40, 0, 0), SHAFT);
+        due("its hits", x.tried(8, 10, 40, 0, 1), 5);
+        due("by the speeds there are, whatever the turn", x.tried(8, 10, 40, 20, 1), 5);
+        Checks.filters(x, "w3");
+        due("by what is seen", x.tried(8, 10, 40, 0, 1), 2);
     }
 
     /** "has the most HITS, of like ones the higher SCORE, then the least TURN" */
