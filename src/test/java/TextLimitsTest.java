@@ -458,6 +458,12 @@ public final class TextLimitsTest {
         seenIs("10a", "y0", "10/1");
         seenIs("10a1b", "y99", "109/1 110/2");
         seenIs("10a1b", "y99;y1;m1", "110/1 111/2");
+        // Knocks of the trace end at 99999, those that are seen may come later.
+        KnockFinder late = with("((999a)5(999a)5)9(999a)9999b99c");
+        due("ten times later", Checks.filters(late, "r99;y99;y99;y99;y99;y99;y99;y99;y99;y99"), 2);
+        due("the last but one", late.knock(0, 0), 99900 + 9 * 99);
+        due("the last one", late.knock(1, 0), 99999 + 9 * 99);
+        due("the trace stays", Checks.trace(late, "1a"), -4);
     }
 
     /** k: "every N-th stays (the first, N behind it, ..)", r: "the first N go", w: "the first N alone stay" */
